@@ -43,8 +43,8 @@ public final class WornWeights {
     /** The world in which check() lets THE DAYS TOLD pass. */
     private final World trial = new World();
     private boolean kept;
-    private final Tape tape = new Tape();
-    private final Reader reader = new Reader(tape);
+    private final Reader reader = new Reader();
+    private final Tape tape = reader.tape;
     private final Sheet[] sheets = new Sheet[SHEETS];
     private final Slot[] slots = new Slot[SLOTS];
     private final int[] waiting = new int[WAITING_MOST];
@@ -1102,9 +1102,9 @@ public final class WornWeights {
         private static final int DIGITS_MOST = 4;
         /** How tightly signs bind, the loosest first; a PIECE stands behind the last of them. */
         private static final int OR_LEVEL = 0, AND_LEVEL = 1, TEST_LEVEL = 2, SUM_LEVEL = 3, TERM_LEVEL = 4, PIECE_LEVEL = 5;
-        private static final int NO_FAULT = -1;
+        private static final int NO_FAULT = -1, NO_STEP = -1;
 
-        private final Tape tape;
+        final Tape tape = new Tape();
         private int ahead;
         private int start;
         private int end;
@@ -1113,10 +1113,6 @@ public final class WornWeights {
         private int pieces;
         private final int[] steps = new int[TAPE_MOST];
         private int stepCount;
-
-        Reader(Tape tape) {
-            this.tape = tape;
-        }
 
         /** The TEXT; null if there is a FAULT in it. */
         Text readTape() {
@@ -1234,9 +1230,9 @@ public final class WornWeights {
 
         private void readPiece(int brackets, int nots) {
             if (ahead == NUMBER) {
-                readNumber();
+                addPiece(numberAhead());
             } else if (ahead == WORD) {
-                readName();
+                addPiece(nameAhead());
             } else if (ahead == '!' && nots < OPEN_MOST) {
                 goOn();
                 readPiece(brackets, nots + 1);
@@ -1261,29 +1257,30 @@ public final class WornWeights {
             }
         }
 
-        private void readNumber() {
+        /** The step of the NUMBER ahead; NO_STEP if it has too many digits. */
+        private int numberAhead() {
             if (end - start > DIGITS_MOST) {
-                stop();
-                return;
+                return NO_STEP;
             }
             int value = 0;
             for (int place = start; place < end; place++) {
                 value = 10 * value + tape.byteAt(place) - '0';
             }
-            addPiece(value);
+            return value;
         }
 
-        private void readName() {
+        /** The step of the NAME ahead; NO_STEP if the KEY has no such NAME. */
+        private int nameAhead() {
             String names = key == WEAR ? "gts" : key == LAW ? "sd" : "lt";
             int name = names.indexOf((char) tape.byteAt(start));
-            if (end - start != 1 || name < 0) {
-                stop();
-                return;
-            }
-            addPiece(Text.FIRST_NAME + name);
+            return end - start == 1 && name >= 0 ? Text.FIRST_NAME + name : NO_STEP;
         }
 
         private void addPiece(int step) {
+            if (step == NO_STEP) {
+                stop();
+                return;
+            }
             addStep(step);
             pieces++;
             goOn();

@@ -37,6 +37,8 @@ public final class OutcomesTest {
         due.is("P17 old, once weighed", x.behind(3, 2), 93);
         Due.text(x, "wear g / 10");
         due.is("P17 by its grains then", x.behind(0, 3), 100 - 10 - 9 - 8);
+        Due.text(x, "wear s / 20");
+        due.is("P17 by its stamp", x.behind(0, 3), 100 - 15);
         due.is("P17 nothing is lost", x.told(0, 2), 100);
         due.is("P17 nothing is lost", x.told(0, 3), 0);
     }
@@ -87,6 +89,7 @@ public final class OutcomesTest {
         due.is("P20 14", x.smallest(14), Due.NONE);
         due.is("P20 999", x.smallest(999), Due.NONE);
         due.is("P20 without weights", new WornWeights().smallest(1), Due.NONE);
+        due.is("P20 the first alone", Due.with(0, 1).smallest(1), 1);
         WornWeights y = new WornWeights();
         for (int i = 0; i < 10; i++) {
             y.weight(0, i == 9 ? 489 : 1 << i);

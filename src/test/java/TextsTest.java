@@ -117,6 +117,15 @@ public final class TextsTest {
         fault("wear\ng", 4);
         fault("wear " + (char) 0, 5);
         fault("wear " + (char) 255, 5);
+        fault("wear g" + (char) 0, 6);
+        fault("wear g" + (char) 255, 6);
+        fault("" + (char) 0, 0);
+        fault("xear g", 0);
+        fault("wead g", 0);
+        fault("kaw s", 0);
+        fault("gine l", 0);
+        fault("wear )", 5);
+        fault("(wear g)", 0);
         fault("wear wear", 5);
         fault("wear g #", 7);
         fault("wear g, s d f g 12345", 6);

@@ -143,34 +143,36 @@ public final class WeighingsTest {
     }
 
     private static void days() {
-        WornWeights x = Due.with(0, 100, 0, 100);
+        WornWeights x = Due.with(1, 100, 1, 100, 1, 100, 1, 100, 1, 100);
         due.is("P15 bad", x.days(0), Due.BAD);
         due.is("P15 bad", x.days(61), Due.BAD);
         due.is("P15 bad", x.days(-1), Due.BAD);
         int z = 1;
-        int[] grains = {100, 100};
-        int falls = 0;
+        int[] grains = {100, 100, 100, 100, 100};
         int shot = 0;
         for (int day = 0; day < 60; day++) {
-            for (int i = 0; i < 2; i++) {
+            int falls = 0;
+            for (int i = 0; i < 5; i++) {
                 z = z * 1103515245 + 12345;
                 if ((z >>> 8) % 100 < 5) {
                     falls++;
-                    grains[i] -= Math.min(10, grains[i]);
+                    grains[i] -= Math.min(20, grains[i]);
                 }
             }
-            for (int i = 0; i < 2 && day % 7 == 0; i++) {
+            for (int i = 0; i < 5 && day % 7 == 0; i++) {
                 shot += Math.max(0, 90 - grains[i]);
                 grains[i] = Math.max(90, grains[i]);
             }
+            due.is("P15 falls on day " + day, x.days(1), falls);
+            due.is("P15 z", x.count(9), z);
+            due.is("P15 shot", x.count(4), shot);
+            due.is("P15 the day", x.count(5), day + 1);
         }
-        due.is("P15 falls", x.days(60), falls);
-        due.is("P15 z", x.count(9), z);
-        due.is("P15 grains", x.told(0, 2), grains[0]);
-        due.is("P15 grains", x.told(1, 2), grains[1]);
-        due.is("P15 shot", x.count(4), shot);
-        due.is("P15 the day", x.count(5), 60);
-        due.is("P15 no times", x.told(0, 3), 0);
+        for (int i = 0; i < 5; i++) {
+            due.is("P15 grains", x.told(i, 2), grains[i]);
+            due.is("P15 no times", x.told(i, 3), 0);
+        }
+        due.is("P15 some shot was given", shot > 0 ? 1 : 0, 1);
         dayIsHeld();
     }
 
@@ -206,7 +208,11 @@ public final class WeighingsTest {
         due.is("P16 fits no more, by its own arms", x.page(0, 3), 0);
         x.file(0, 100);
         due.is("P16 fits again", x.page(0, 3), 1);
-        due.is("P16 none", x.page(2, 0), Due.NONE);
+        x.arm(2, 1, 110);
+        x.file(1, 95);
+        due.is("P16 by the right arm", x.weigh(2, 1, 2), 2);
+        due.is("P16 fits by the right arm", x.page(2, 3), 1);
+        due.is("P16 none", x.page(3, 0), Due.NONE);
         due.is("P16 none", x.page(-1, 3), Due.NONE);
         due.is("P16 bad", x.page(0, -1), Due.BAD);
     }
