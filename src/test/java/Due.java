@@ -5,14 +5,35 @@ final class Due {
 
     private int right;
     private int wrong;
+    private String sentence = "";
 
     void is(String call, int got, int want) {
         if (got == want) {
             right++;
         } else {
             wrong++;
-            System.out.println(call + " answered " + got + ", due is " + want);
+            System.out.println(sentence + call + " answered " + got + ", due is " + want);
         }
+    }
+
+    /** What follows looks at these words of a promise. */
+    void promise(int n, String words) {
+        quote("P" + n, Doc.promise(n), words);
+    }
+
+    /** What follows looks at these words of a part of 'Terms'; part 0 is what stands ahead of part 1. */
+    void term(int part, String words) {
+        quote("T" + part, Doc.part(part), words);
+    }
+
+    void head(String words) {
+        quote("head", Doc.head(), words);
+    }
+
+    /** Words that the document no longer has are a fault of the test: its answers may not be due any more. */
+    private void quote(String where, String section, String words) {
+        sentence = where + " '" + words + "': ";
+        is("the document has these words", section.contains(words) ? 1 : 0, 1);
     }
 
     void end() {
@@ -42,6 +63,22 @@ final class Due {
             v = v << 8 | (i < text.length() ? text.charAt(i) & 255 : 0);
         }
         return v;
+    }
+
+    /** A z behind which the draws' rests are these: pairs of a divisor and its rest, one pair for each draw. */
+    static int seedFor(int... divisorsAndRests) {
+        for (int seed = 1; seed < 100_000_000; seed++) {
+            int z = seed;
+            boolean fits = true;
+            for (int i = 0; i < divisorsAndRests.length && fits; i += 2) {
+                z = z * 1103515245 + 12345;
+                fits = (z >>> 8) % divisorsAndRests[i] == divisorsAndRests[i + 1];
+            }
+            if (fits) {
+                return seed;
+            }
+        }
+        throw new IllegalArgumentException("no such z");
     }
 
     /** A new object with one WEIGHT for each pair of KIND and STAMP. */

@@ -15,6 +15,7 @@ public final class OutcomesTest {
     }
 
     private static void behind() {
+        due.promise(17, "BEHIND n (0 .. 500) WEIGHINGS of a WEIGHT alone. BAD.");
         WornWeights x = Due.with(0, 100, 1, 999, 3, 30, 4, 100, 5, 9);
         due.is("P17 bad", x.behind(0, -1), Due.BAD);
         due.is("P17 bad", x.behind(0, 501), Due.BAD);
@@ -44,6 +45,7 @@ public final class OutcomesTest {
     }
 
     private static void lasts() {
+        due.promise(18, "LASTS for g (1 .. 999). BAD.");
         WornWeights x = Due.with(0, 999, 1, 999, 5, 10);
         due.is("P18 bad", x.lasts(0, 0), Due.BAD);
         due.is("P18 bad", x.lasts(0, 1000), Due.BAD);
@@ -59,6 +61,7 @@ public final class OutcomesTest {
     }
 
     private static void canWeigh() {
+        due.promise(19, "CAN WEIGH of a set. BAD.");
         WornWeights x = Due.with(0, 4, 0, 1, 0, 2, 0, 9, 0, 16, 0, 1);
         due.is("P19 bad", x.canWeigh(64), Due.BAD);
         due.is("P19 bad", x.canWeigh(-1), Due.BAD);
@@ -77,6 +80,7 @@ public final class OutcomesTest {
     }
 
     private static void smallest() {
+        due.promise(20, "SMALLEST of n (1 .. 999), as a set. BAD; NONE: there is none.");
         WornWeights x = Due.with(0, 2, 0, 1, 0, 3, 0, 1, 0, 2, 0, 4);
         due.is("P20 bad", x.smallest(0), Due.BAD);
         due.is("P20 bad", x.smallest(1000), Due.BAD);
@@ -98,6 +102,7 @@ public final class OutcomesTest {
     }
 
     private static void gain() {
+        due.promise(21, "what 0 how many grains, 1 the set. BAD; NONE: no set has these STAMPS.");
         WornWeights x = Due.with(0, 5, 0, 3, 0, 2, 0, 5);
         due.is("P21 bad", x.gain(0, 0), Due.BAD);
         due.is("P21 bad", x.gain(9991, 0), Due.BAD);
@@ -119,6 +124,7 @@ public final class OutcomesTest {
     }
 
     private static void pound() {
+        due.promise(22, "TRUE POUND: above (part 0), below the line (1). BAD.");
         WornWeights x = new WornWeights();
         due.is("P22 without", x.pound(0), 0);
         due.is("P22 without", x.pound(1), 1);
@@ -141,6 +147,7 @@ public final class OutcomesTest {
     }
 
     private static void falseOne() {
+        due.promise(23, "FALSE ONE. NONE: there is none.");
         WornWeights x = Due.with(5, 10, 5, 10, 5, 10, 5, 10);
         due.is("P23 without pages", x.falseOne(), Due.NONE);
         x.weigh(0, 1, 2);
@@ -190,6 +197,7 @@ public final class OutcomesTest {
     }
 
     private static void fine() {
+        due.promise(24, "What fine gives for a WEIGHT. BAD.");
         WornWeights x = Due.with(0, 100, 1, 50);
         due.is("P24 bad", x.fine(2), Due.BAD);
         due.is("P24 bad", x.fine(-1), Due.BAD);

@@ -13,12 +13,15 @@ public final class RowsTest {
     }
 
     private static void tell() {
+        due.promise(39, "One more number waits: how many. FULL: 60 wait.");
         WornWeights x = new WornWeights();
         for (int i = 1; i <= 60; i++) {
             due.is("P39 how many", x.tell(-i), i);
         }
         due.is("P39 full", x.tell(0), Due.FULL);
         due.is("P39 60", x.count(7), 60);
+        x.check(1);
+        due.is("P39 room again", x.tell(Integer.MIN_VALUE), 1);
     }
 
     /** THE DAYS TOLD, by the way of days() itself. */
@@ -41,6 +44,7 @@ public final class RowsTest {
     }
 
     private static void check() {
+        due.promise(40, "else 1 and how many stand right ahead of the first that is not (or is missing, or one too many). BAD; NO: there is no IMAGE.");
         WornWeights x = new WornWeights();
         x.deal(10);
         x.tell(1);
@@ -78,6 +82,7 @@ public final class RowsTest {
     }
 
     private static void checkAtTheLastDay() {
+        due.promise(40, "(1 .. 30; fewer, if THE DAY would be above 9999)");
         WornWeights x = Due.with(0, 100);
         for (int i = 0; i < 166; i++) {
             x.days(60);
@@ -91,9 +96,13 @@ public final class RowsTest {
         x.keep();
         due.is("P40 no day is left", x.check(30), 0);
         due.is("P40 no day is left", checked(x, 1, told, 1), 1);
+        for (int n = 1; n <= 30; n++) {
+            due.is("P40 no day is left of " + n, x.check(n), 0);
+        }
     }
 
     private static void keepAndBack() {
+        due.promise(42, "All is as THE IMAGE: how many WEIGHTS. NO: there is none.");
         WornWeights x = Due.with(1, 50, 0, 20);
         due.is("P42 none", x.back(), Due.NO);
         x.arm(1, 0, 95);
@@ -146,6 +155,7 @@ public final class RowsTest {
     }
 
     private static void imageKeepsTexts() {
+        due.promise(41, "AN IMAGE is kept: how many WEIGHTS.");
         WornWeights x = Due.with(0, 100);
         Due.text(x, "wear 4");
         x.keep();
@@ -164,6 +174,7 @@ public final class RowsTest {
     }
 
     private static void count() {
+        due.promise(43, "6 TEXTS, 7 numbers that wait, 8 bytes of THE TAPE, 9 z. BAD.");
         WornWeights x = Due.with(0, 100, 1, 30);
         x.file(0, 40);
         x.weigh(0, 1, 0);

@@ -36,6 +36,7 @@ public final class SheetsTest {
     }
 
     private static void sheet() {
+        due.promise(30, "(sort -1: MISSING, n any): n (0). BAD: sheet, sort, n above 24; SIZE.");
         WornWeights x = new WornWeights();
         due.is("P30 sheet -1", x.sheet(-1, 0, 5), Due.BAD);
         due.is("P30 sheet 4", x.sheet(4, 0, 5), Due.BAD);
@@ -60,6 +61,7 @@ public final class SheetsTest {
     }
 
     private static void mark() {
+        due.promise(31, "BAD: sheet; NOTHING; INDEX; KIND: NONE in a row of shorts; BAD: v of floats.");
         WornWeights x = new WornWeights();
         due.is("P31 bad", x.mark(4, 0, 0), Due.BAD);
         due.is("P31 bad", x.mark(-1, 0, 0), Due.BAD);
@@ -83,6 +85,7 @@ public final class SheetsTest {
     }
 
     private static void pour() {
+        due.promise(32, "(each held within 0 .. 999; NO NUMBER, and beyond the SHEET: they stay): how many are otherwise then. BAD; NOTHING.");
         WornWeights x = Due.with(0, 10, 0, 20, 0, 30, 0, 40, 0, 50);
         due.is("P32 bad", x.pour(-1), Due.BAD);
         due.is("P32 bad", x.pour(4), Due.BAD);
@@ -101,6 +104,24 @@ public final class SheetsTest {
         due.is("P32 all 0", x.count(1), 0);
         due.is("P32 no shot", x.count(4), 0);
         due.is("P32 without weights", poured(), 0);
+        pouredIsHeld();
+    }
+
+    private static void pouredIsHeld() {
+        int[] places = {-99999, -1, 0, 1, 998, 999, 1000, 99999};
+        int[] grains = {0, 0, 0, 1, 998, 999, 999, 999};
+        for (int sort = 0; sort < 2; sort++) {
+            WornWeights x = Due.with(0, 5, 0, 5, 0, 5, 0, 5, 0, 5, 0, 5, 0, 5, 0, 5, 0, 5);
+            row(x, 0, sort, places);
+            // 16 bits of -99999 are 31073, those of 99999 are -31073.
+            due.is("P32 all but the ninth", x.pour(0), 8);
+            for (int i = 0; i < 8; i++) {
+                boolean turned = sort == 0 && (i == 0 || i == 7);
+                due.is("P32 held " + places[i], x.told(i, 2), turned ? 999 - grains[i] : grains[i]);
+            }
+            due.is("P32 beyond the sheet it stays", x.told(8, 2), 5);
+            due.is("P32 none is otherwise", x.pour(0), 0);
+        }
     }
 
     private static int poured() {
@@ -110,6 +131,7 @@ public final class SheetsTest {
     }
 
     private static void reads() {
+        due.promise(33, "The first place k (of numbers alone) at which a SHEET is not what BEHIND k WEIGHINGS of a WEIGHT tells.");
         WornWeights x = Due.with(0, 10, 4, 10);
         due.is("P33 bad", x.reads(4, 0), Due.BAD);
         due.is("P33 bad", x.reads(-1, 0), Due.BAD);
@@ -131,11 +153,31 @@ public final class SheetsTest {
         Due.text(x, "wear 2");
         row(x, 2, 0, 10, 9, 9, 8, 8);
         due.is("P33 old", x.reads(2, 1), Due.NONE);
+        readsToTheLastPlace();
         due.is("P33 nothing is lost", x.count(1), 20);
         due.is("P33 nothing is lost", x.told(1, 3), 0);
     }
 
+    private static void readsToTheLastPlace() {
+        WornWeights x = Due.with(0, 20);
+        x.sheet(0, 1, 24);
+        for (int k = 0; k < 24; k++) {
+            x.mark(0, k, Math.max(0, 20 - k));
+        }
+        due.is("P33 24 places", x.reads(0, 0), Due.NONE);
+        for (int k = 23; k >= 0; k--) {
+            x.mark(0, k, 777);
+            due.is("P33 the first that is not", x.reads(0, 0), k);
+        }
+        for (int k = 0; k < 24; k++) {
+            due.is("P33 the first of numbers alone", x.reads(0, 0), k);
+            x.mark(0, k, Due.NONE);
+        }
+        due.is("P33 no numbers", x.reads(0, 0), Due.NONE);
+    }
+
     private static void copy() {
+        due.promise(34, "KIND: they are not of one sort; INDEX (many below 0, too; many 0: not at the place behind the last one).");
         WornWeights x = new WornWeights();
         x.sheet(0, 1, 4);
         x.sheet(1, 0, 3);
@@ -160,9 +202,47 @@ public final class SheetsTest {
         due.is("P34 to itself, the other way", x.copy(2, 1, 2, 0, 4), 4);
         isRow("P34 as they were", x, 2, 1, 2, Due.KIND, 4, 4);
         due.is("P34 shorts", x.copy(1, 0, 1, 0, 3), 3);
+        copiesNone();
+        copiesAll();
+    }
+
+    private static void copiesNone() {
+        WornWeights x = new WornWeights();
+        x.sheet(0, 0, 3);
+        x.sheet(1, 0, 0);
+        x.sheet(2, 0, 24);
+        for (int place = 0; place <= 3; place++) {
+            due.is("P34 none from " + place, x.copy(0, place, 1, 0, 0), 0);
+            due.is("P34 none to " + place, x.copy(1, 0, 0, place, 0), 0);
+        }
+        due.is("P34 none from beyond", x.copy(0, 4, 1, 0, 0), Due.INDEX);
+        due.is("P34 none to beyond", x.copy(1, 0, 0, 4, 0), Due.INDEX);
+        due.is("P34 none from -1", x.copy(0, -1, 1, 0, 0), Due.INDEX);
+        due.is("P34 none to -1", x.copy(1, 0, 0, -1, 0), Due.INDEX);
+        due.is("P34 one from a row of none", x.copy(1, 0, 0, 0, 1), Due.INDEX);
+        due.is("P34 one to a row of none", x.copy(0, 0, 1, 0, 1), Due.INDEX);
+        due.is("P34 none, behind the last of 24", x.copy(2, 24, 2, 24, 0), 0);
+        due.is("P34 none, beyond that", x.copy(2, 25, 2, 24, 0), Due.INDEX);
+    }
+
+    private static void copiesAll() {
+        WornWeights x = new WornWeights();
+        x.sheet(0, 0, 24);
+        x.sheet(1, 0, 24);
+        for (int i = 0; i < 24; i++) {
+            x.mark(0, i, 100 + i);
+        }
+        due.is("P34 24", x.copy(0, 0, 1, 0, 24), 24);
+        due.is("P34 25", x.copy(0, 0, 1, 0, 25), Due.INDEX);
+        due.is("P34 the last", x.copy(0, 23, 1, 0, 1), 1);
+        due.is("P34 to the last", x.copy(0, 0, 1, 23, 1), 1);
+        due.is("P34 the last came", place(x, 1, 0), 123);
+        due.is("P34 to the last", place(x, 1, 23), 100);
+        due.is("P34 between", place(x, 1, 22), 122);
     }
 
     private static void lay() {
+        due.promise(35, "thing 0 nothing (k any), 1 WEIGHT k, 2 SHEET k, 3 the number k: what it held (0 .. 3). BAD: slot, thing, k; NOTHING");
         WornWeights x = Due.with(3, 50);
         x.sheet(0, 0, 2);
         due.is("P35 slot", x.lay(-1, 0, 0), Due.BAD);
@@ -186,6 +266,7 @@ public final class SheetsTest {
     }
 
     private static void ask() {
+        due.promise(36, "BAD; NOTHING; KIND: it is no WEIGHT, or not of that KIND, nor of one under it.");
         WornWeights x = Due.with(3, 50, 4, 20);
         x.weigh(0, 1, 0);
         x.lay(0, 1, 0);
@@ -210,6 +291,7 @@ public final class SheetsTest {
     }
 
     private static void item() {
+        due.promise(37, "BAD: slot; NOTHING; KIND: it is no SHEET; INDEX; KIND: NO NUMBER.");
         WornWeights x = Due.with(0, 5);
         row(x, 0, 1, 7, Due.NONE);
         x.lay(0, 2, 0);
@@ -231,6 +313,7 @@ public final class SheetsTest {
     }
 
     private static void rest() {
+        due.promise(38, "BAD: slot; NOTHING; KIND: it is no number; NO: n is 0.");
         WornWeights x = Due.with(0, 5);
         x.sheet(0, 0, 1);
         x.lay(0, 3, -17);

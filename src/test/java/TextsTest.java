@@ -16,6 +16,7 @@ public final class TextsTest {
     }
 
     private static void feed() {
+        due.promise(25, "Twelve bytes come to THE TAPE, the highest of each number first: how many it has. FULL: it would have more than 96.");
         WornWeights x = new WornWeights();
         for (int i = 1; i <= 8; i++) {
             due.is("P25 bytes", x.feed(i, -1, 0), 12 * i);
@@ -34,6 +35,7 @@ public final class TextsTest {
     }
 
     private static void trim() {
+        due.promise(26, "THE TAPE keeps its first n bytes: n. BAD (n above how many it has, too).");
         WornWeights x = new WornWeights();
         due.is("P26 0", x.trim(0), 0);
         due.is("P26 above", x.trim(1), Due.BAD);
@@ -46,9 +48,15 @@ public final class TextsTest {
         due.is("P26 count", x.count(8), 5);
         Due.tape(x, "abc");
         due.is("P26 goes on behind", x.count(8), 8);
+        WornWeights y = Due.with(0, 1);
+        Due.tape(y, "fine 123");
+        due.is("P26 the first seven", y.trim(7), 7);
+        due.is("P26 they are a text", y.text(), 0);
+        due.is("P26 they are the first", y.fine(0), 12);
     }
 
     private static void text() {
+        due.promise(27, "THE TAPE is a TEXT: its number. -100 less the place of its FAULT; FULL.");
         WornWeights x = new WornWeights();
         due.is("P27 0", Due.text(x, "wear 1"), 0);
         due.is("P27 the tape is used up", x.count(8), 0);
@@ -219,6 +227,7 @@ public final class TextsTest {
     }
 
     private static void textTold() {
+        due.promise(28, "what 0 KEY (0 wear, 1 law, 2 fine), 1 how many NUMBERS and NAMES it has. BAD.");
         WornWeights x = new WornWeights();
         Due.text(x, "law s*(9+d)-!0");
         Due.text(x, "fine 1");
@@ -236,6 +245,7 @@ public final class TextsTest {
     }
 
     private static void why() {
+        due.promise(29, "The TEXT that counts for a KEY. BAD; NONE.");
         WornWeights x = new WornWeights();
         due.is("P29 bad", x.why(-1), Due.BAD);
         due.is("P29 bad", x.why(3), Due.BAD);

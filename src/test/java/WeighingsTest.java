@@ -28,6 +28,7 @@ public final class WeighingsTest {
     }
 
     private static void weigh() {
+        due.promise(10, "BAD: balance, a set with one that is not there; NO: one is in both, or both are empty.");
         WornWeights x = Due.with(0, 100, 1, 80);
         refusals("P10", x, true);
         due.is("P10 left", x.weigh(0, 1, 2), 1);
@@ -66,6 +67,7 @@ public final class WeighingsTest {
     }
 
     private static void said() {
+        due.promise(11, "SAID of a WEIGHING. BAD; NO: likewise.");
         WornWeights x = Due.with(0, 100, 1, 80);
         refusals("P11", x, false);
         due.is("P11 left", x.said(0, 1, 2), 1);
@@ -79,6 +81,7 @@ public final class WeighingsTest {
     }
 
     private static void fall() {
+        due.promise(12, "A WEIGHT FALLS: how many GRAINS it lost. BAD.");
         WornWeights x = Due.with(0, 100, 3, 100, 5, 100, 2, 100);
         due.is("P12 bad", x.fall(4), Due.BAD);
         due.is("P12 bad", x.fall(-1), Due.BAD);
@@ -93,6 +96,7 @@ public final class WeighingsTest {
     }
 
     private static void shoot() {
+        due.promise(13, "n (1 .. 999) grains of SHOT to a WEIGHT: how many it took. BAD.");
         WornWeights x = Due.with(0, 100);
         due.is("P13 bad", x.shoot(0, 0), Due.BAD);
         due.is("P13 bad", x.shoot(0, 1000), Due.BAD);
@@ -118,6 +122,7 @@ public final class WeighingsTest {
     }
 
     private static void monday() {
+        due.promise(14, "A MONDAY: how many grains of SHOT.");
         WornWeights x = Due.with(0, 100, 5, 9, 0, 19);
         due.is("P14 all right", x.monday(), 0);
         x.file(0, 89);
@@ -143,6 +148,7 @@ public final class WeighingsTest {
     }
 
     private static void days() {
+        due.promise(15, "n (1 .. 60) DAYS (no more than up to 9999): how many FALLS there were in them. BAD.");
         WornWeights x = Due.with(1, 100, 1, 100, 1, 100, 1, 100, 1, 100);
         due.is("P15 bad", x.days(0), Due.BAD);
         due.is("P15 bad", x.days(61), Due.BAD);
@@ -174,6 +180,23 @@ public final class WeighingsTest {
         }
         due.is("P15 some shot was given", shot > 0 ? 1 : 0, 1);
         dayIsHeld();
+        fallsOfSeveralDays();
+    }
+
+    private static void fallsOfSeveralDays() {
+        WornWeights x = Due.with(5, 100, 5, 100, 5, 100);
+        x.seed(9);
+        x.keep();
+        int[] falls = new int[60];
+        for (int i = 0; i < 60; i++) {
+            falls[i] = (i == 0 ? 0 : falls[i - 1]) + x.days(1);
+        }
+        due.is("P15 there were some", falls[59] > 1 ? 1 : 0, 1);
+        for (int n = 1; n <= 60; n++) {
+            x.back();
+            due.is("P15 falls in " + n + " days", x.days(n), falls[n - 1]);
+            due.is("P15 the day", x.count(5), n);
+        }
     }
 
     private static void dayIsHeld() {
@@ -191,6 +214,7 @@ public final class WeighingsTest {
     }
 
     private static void page() {
+        due.promise(16, "2 what it SAYS, 3 whether it FITS (1, 0). BAD: what; NONE: there is no such PAGE.");
         WornWeights x = Due.with(0, 100, 1, 100, 5, 50);
         due.is("P16 none", x.page(0, 0), Due.NONE);
         due.is("P16 bad ahead of none", x.page(0, 4), Due.BAD);

@@ -16,6 +16,7 @@ public final class WeightsTest {
     }
 
     private static void newObject() {
+        due.promise(1, "As told; no WEIGHTS.");
         WornWeights x = new WornWeights();
         int[] first = {0, 0, 0, 0, 0, 0, 0, 0, 0, 1};
         for (int what = 0; what < 10; what++) {
@@ -37,6 +38,7 @@ public final class WeightsTest {
     }
 
     private static void weight() {
+        due.promise(2, "One more WEIGHT: its number. BAD; FULL.");
         WornWeights x = new WornWeights();
         due.is("P2 kind -1", x.weight(-1, 5), Due.BAD);
         due.is("P2 kind 6", x.weight(6, 5), Due.BAD);
@@ -52,6 +54,7 @@ public final class WeightsTest {
     }
 
     private static void told() {
+        due.promise(3, "4 what it LOSES at a weighing, 5 at a fall, 6 WORTH. BAD.");
         WornWeights x = Due.with(0, 100, 1, 100, 2, 100, 3, 100, 4, 100, 5, 100);
         int[] loses = {1, 2, 0, 4, 0, 0};
         int[] worth = {100, 98, 200, 98, 300, 7};
@@ -102,6 +105,7 @@ public final class WeightsTest {
     }
 
     private static void as() {
+        due.promise(4, "KIND: it is not of that KIND, nor of one under it.");
         boolean[][] is = {
             {true, false, false, false, false, false},
             {true, true, false, false, false, false},
@@ -122,6 +126,7 @@ public final class WeightsTest {
     }
 
     private static void turns() {
+        due.promise(5, "A WEIGHT is of another KIND (or the same) from now on: what it was. BAD.");
         WornWeights x = Due.with(3, 10);
         due.is("P5 bad kind", x.turns(0, 6), Due.BAD);
         due.is("P5 bad kind", x.turns(0, -1), Due.BAD);
@@ -131,9 +136,18 @@ public final class WeightsTest {
         due.is("P5 the same", x.turns(0, 4), 4);
         due.is("P5 is", x.told(0, 0), 4);
         due.is("P5 worth", x.told(0, 6), 120);
+        x.file(0, 7);
+        x.weigh(0, 1, 0);
+        for (int kind = 0; kind < 6; kind++) {
+            x.turns(0, kind);
+            due.is("P5 stamp stays", x.told(0, 1), 10);
+            due.is("P5 grains stay", x.told(0, 2), 7);
+            due.is("P5 times stay", x.told(0, 3), 1);
+        }
     }
 
     private static void file() {
+        due.promise(6, "GRAINS of a WEIGHT become v (0 .. 999): what they were. BAD.");
         WornWeights x = Due.with(0, 10);
         due.is("P6 bad", x.file(0, -1), Due.BAD);
         due.is("P6 bad", x.file(0, 1000), Due.BAD);
@@ -143,9 +157,12 @@ public final class WeightsTest {
         due.is("P6 was", x.file(0, 0), 999);
         due.is("P6 is", x.told(0, 2), 0);
         due.is("P6 stamp stays", x.told(0, 1), 10);
+        due.is("P6 no shot", x.count(4), 0);
+        due.is("P6 the same", x.file(0, 0), 0);
     }
 
     private static void arm() {
+        due.promise(7, "(side 0 left, 1 right) becomes v: what it was. BAD.");
         WornWeights x = Due.with(0, 100, 0, 100);
         due.is("P7 balance -1", x.arm(-1, 0, 100), Due.BAD);
         due.is("P7 balance 4", x.arm(4, 0, 100), Due.BAD);
@@ -162,6 +179,7 @@ public final class WeightsTest {
     }
 
     private static void deal() {
+        due.promise(8, "as many as there is room for (no draws for others): how many came. BAD.");
         WornWeights x = new WornWeights();
         due.is("P8 0", x.deal(0), Due.BAD);
         due.is("P8 11", x.deal(11), Due.BAD);
@@ -183,12 +201,27 @@ public final class WeightsTest {
         }
         due.is("P8 no room", x.deal(3), 0);
         due.is("P8 no draws for others", x.count(9), z);
+        for (int n = 1; n <= 10; n++) {
+            WornWeights y = Due.with(0, 1, 0, 1, 0, 1, 0, 1);
+            due.is("P8 room for six", y.deal(n), Math.min(n, 6));
+            due.is("P8 as many", y.count(0), 4 + Math.min(n, 6));
+            int drawn = 1;
+            for (int i = 0; i < 2 * Math.min(n, 6); i++) {
+                drawn = drawn * 1103515245 + 12345;
+            }
+            due.is("P8 two draws for each", y.count(9), drawn);
+        }
     }
 
     private static void seed() {
+        due.promise(9, "z becomes v: what it was.");
         WornWeights x = new WornWeights();
         due.is("P9 was", x.seed(Integer.MIN_VALUE), 1);
-        due.is("P9 was", x.seed(0), Integer.MIN_VALUE);
+        due.is("P9 was", x.seed(Integer.MAX_VALUE), Integer.MIN_VALUE);
+        due.is("P9 was", x.seed(0), Integer.MAX_VALUE);
         due.is("P9 is", x.count(9), 0);
+        due.is("P9 what a refusal is called is a number too", x.seed(Due.BAD), 0);
+        due.is("P9 what a refusal is called is a number too", x.seed(1), Due.BAD);
+        due.is("P9 is", x.count(9), 1);
     }
 }
