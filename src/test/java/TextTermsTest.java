@@ -505,6 +505,7 @@ public final class TextTermsTest {
         due.is("not a fault", x.told(0, 4), 20);
         Due.text(x, "fine 30");
         due.is("of each key by itself", x.told(0, 4), 20);
+        due.is("why fine", x.why(2), 3);
         Due.text(x, "wear 10");
         due.is("the same once more", x.why(0), 4);
         due.is("the last", x.told(0, 4), 10);

@@ -256,5 +256,10 @@ public final class TextsTest {
         due.is("P29 wear", x.why(0), 2);
         due.is("P29 law", x.why(1), 1);
         due.is("P29 fine", x.why(2), Due.NONE);
+        Due.text(x, "fine 1");
+        due.is("P29 fine", x.why(2), 3);
+        Due.text(x, "fine");
+        due.is("P29 not a fault", x.why(2), 3);
+        due.is("P29 wear still", x.why(0), 2);
     }
 }
