@@ -22,6 +22,9 @@ public final class FaceTest {
 
     public static void main(String[] args) throws IOException {
         face();
+        constants();
+        numbersByName();
+        headings();
         members();
         classesInside();
         words();
@@ -58,6 +61,66 @@ public final class FaceTest {
         must(Modifier.isPublic(modifiers) && Modifier.isFinal(modifiers), "the class is public and final");
         Constructor<?>[] made = WornWeights.class.getDeclaredConstructors();
         must(made.length == 1 && Modifier.isPublic(made[0].getModifiers()) && made[0].getParameterCount() == 0, "constructor");
+    }
+
+    private static void constants() throws IOException {
+        Matcher row = Pattern.compile("(?m)^    public static final int (.*);$").matcher(Files.readString(DOC));
+        must(row.find(), "the document has constants");
+        Matcher constant = Pattern.compile("(\\w+) = (-\\d+)").matcher(row.group(1));
+        int many = 0;
+        while (constant.find()) {
+            many++;
+            must(valueOf(constant.group(1)) == Long.parseLong(constant.group(2)), constant.group() + " is due");
+        }
+        must(many == 8, "eight constants");
+    }
+
+    /** What a constant of the class is; 0, which none is, if it is no public static final int. */
+    private static long valueOf(String name) {
+        try {
+            Field f = WornWeights.class.getField(name);
+            boolean constant = Modifier.isStatic(f.getModifiers()) && Modifier.isFinal(f.getModifiers());
+            return constant && f.getType() == int.class ? f.getInt(null) : 0;
+        } catch (ReflectiveOperationException none) {
+            return 0;
+        }
+    }
+
+    /** The numbers of each call bear the document's names, in its order. */
+    private static void numbersByName() throws IOException {
+        String source = Files.readString(SOURCE);
+        Matcher face = Pattern.compile("(?m)^    (public int \\w+\\([^)]*\\));$").matcher(Files.readString(DOC));
+        int at = 0;
+        while (face.find()) {
+            int found = source.indexOf("    " + face.group(1) + " {\n", at);
+            must(found >= 0, face.group(1) + " stands in the document's order");
+            at = Math.max(at, found);
+        }
+    }
+
+    /** "Ahead of the calls .. the interface says: ---- ..": the same words stand ahead of the same calls. */
+    private static void headings() throws IOException {
+        String source = Files.readString(SOURCE);
+        Matcher heading = Pattern.compile("(?m)^Ahead of the calls (.*) the interface says: (---- .*)\\.$").matcher(Files.readString(DOC));
+        int many = 0;
+        while (heading.find()) {
+            many++;
+            int from = source.indexOf("    // " + heading.group(2) + "\n");
+            int to = source.indexOf("\n    // ----", from + 1);
+            must(from >= 0 && to >= 0, heading.group(2) + " is a heading");
+            String part = source.substring(Math.max(0, from), Math.max(from, Math.max(0, to)));
+            must(names("(?m)^    public int (\\w+)\\(", part).equals(names("`(\\w+)`", heading.group(1))), heading.group());
+        }
+        must(many == 6, "six headings");
+    }
+
+    private static List<String> names(String pattern, String text) {
+        List<String> names = new ArrayList<>();
+        Matcher found = Pattern.compile(pattern).matcher(text);
+        while (found.find()) {
+            names.add(found.group(1));
+        }
+        return names;
     }
 
     private static void members() {
@@ -97,8 +160,14 @@ public final class FaceTest {
             }
             for (Method m : c.getDeclaredMethods()) {
                 must(m.getParameterCount() <= 7, m + " takes at most seven");
+                must(c == WornWeights.class || !isOfTheFace(m.getName()), m + " bears the name of a public one");
             }
         }
+    }
+
+    private static boolean isOfTheFace(String name) {
+        return Arrays.stream(WornWeights.class.getMethods())
+            .anyMatch(m -> m.getDeclaringClass() == WornWeights.class && m.getName().equals(name));
     }
 
     private static void words() throws IOException {

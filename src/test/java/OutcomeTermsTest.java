@@ -61,7 +61,7 @@ public final class OutcomeTermsTest {
     }
 
     private static void lasts() {
-        due.term(3, "how many times it can be weighed so till GRAINS are below g (0: they are now; 999 at most)");
+        due.term(3, "LASTS for g: how many times it can be weighed so till GRAINS are below g (0: they are now; 999 at most)");
         WornWeights x = Due.with(0, 100, 5, 1, 2, 999, 1, 999, 0, 999);
         due.is("g is one more than grains", x.lasts(0, 101), 0);
         due.is("g is as grains", x.lasts(0, 100), 1);
@@ -87,7 +87,8 @@ public final class OutcomeTermsTest {
     }
 
     private static void canWeigh() {
-        due.term(3, "n of a set is the greatest number so that for each v of 1 .. n some WEIGHTS of the set have just v GRAINS");
+        due.term(3, "CAN WEIGH: all pounds 1 .. n, if n of a set is the greatest number so that for each v of 1 .. n"
+            + " some WEIGHTS of the set have just v GRAINS");
         int[][] grains = {{1}, {1, 1}, {1, 2}, {1, 3}, {2, 1}, {1, 2, 4}, {1, 2, 5}, {4, 2, 1}, {1, 1, 3, 6}, {1, 1, 3, 7}, {1, 2, 3, 8}, {1, 0, 2},
             {1, 999}, {1, 1, 1, 1, 1, 1, 1, 1, 1, 1}, {10, 9, 8, 7, 6, 5, 4, 3, 2, 1}, {512, 256, 128, 64, 32, 16, 8, 4, 2, 1},
             {999, 256, 128, 64, 32, 16, 8, 4, 2, 1}, {1, 2, 4, 8, 16, 32, 64, 128, 256, 513}};
@@ -115,7 +116,7 @@ public final class OutcomeTermsTest {
     }
 
     private static void smallestOrMore() {
-        due.term(3, "the set with the fewest WEIGHTS that CAN WEIGH 1 .. n or more");
+        due.term(3, "SMALLEST of n: the set with the fewest WEIGHTS that CAN WEIGH 1 .. n or more");
         WornWeights x = Due.with(0, 1, 0, 1, 0, 2, 0, 3, 0, 999);
         due.is("1", x.smallest(1), 0b00001);
         due.is("2, just so", x.smallest(2), 0b00011);
@@ -153,7 +154,7 @@ public final class OutcomeTermsTest {
     }
 
     private static void gainJustG() {
-        due.term(3, "of all sets of WEIGHTS whose STAMPS are together just g");
+        due.term(3, "GAIN of a sale of g: of all sets of WEIGHTS whose STAMPS are together just g");
         WornWeights x = Due.with(0, 5, 0, 7);
         int[] sales = {4, 5, 6, 7, 8, 11, 12, 13};
         int[] sets = {Due.NONE, 1, Due.NONE, 2, Due.NONE, Due.NONE, 3, Due.NONE};
@@ -215,7 +216,7 @@ public final class OutcomeTermsTest {
     }
 
     private static void poundLowest() {
-        due.term(3, "the sum of GRAINS by the sum of STAMPS of all, in lowest terms");
+        due.term(3, "TRUE POUND: the sum of GRAINS by the sum of STAMPS of all, in lowest terms");
         int[][] stampsAndGrains = {{1, 1}, {999, 999}, {999, 0}, {1, 999}, {999, 1}, {12, 8}, {8, 12}, {7, 5}, {360, 840}};
         int[][] want = {{1, 1}, {1, 1}, {0, 1}, {999, 1}, {1, 999}, {2, 3}, {3, 2}, {5, 7}, {7, 3}};
         for (int i = 0; i < want.length; i++) {

@@ -102,7 +102,7 @@ public final class OutcomesTest {
     }
 
     private static void gain() {
-        due.promise(21, "what 0 how many grains, 1 the set. BAD; NONE: no set has these STAMPS.");
+        due.promise(21, "GAIN of a sale of g (1 .. 9990): what 0 how many grains, 1 the set. BAD; NONE: no set has these STAMPS.");
         WornWeights x = Due.with(0, 5, 0, 3, 0, 2, 0, 5);
         due.is("P21 bad", x.gain(0, 0), Due.BAD);
         due.is("P21 bad", x.gain(9991, 0), Due.BAD);

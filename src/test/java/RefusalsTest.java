@@ -186,7 +186,7 @@ public final class RefusalsTest {
     }
 
     private static void usesUpWhatWaits() {
-        due.promise(40, "(none do then, whatever is answered)");
+        due.promise(40, "The numbers that wait (none do then, whatever is answered)");
         int[] days = {0, 31, 1};
         int[] want = {Due.BAD, Due.BAD, 1};
         for (int i = 0; i < 3; i++) {

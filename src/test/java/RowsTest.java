@@ -82,7 +82,7 @@ public final class RowsTest {
     }
 
     private static void checkAtTheLastDay() {
-        due.promise(40, "(1 .. 30; fewer, if THE DAY would be above 9999)");
+        due.promise(40, "are THE DAYS TOLD of n (1 .. 30; fewer, if THE DAY would be above 9999), two by two: 0;");
         WornWeights x = Due.with(0, 100);
         for (int i = 0; i < 166; i++) {
             x.days(60);
@@ -174,7 +174,8 @@ public final class RowsTest {
     }
 
     private static void count() {
-        due.promise(43, "6 TEXTS, 7 numbers that wait, 8 bytes of THE TAPE, 9 z. BAD.");
+        due.promise(43, "0 how many WEIGHTS, 1 GRAINS of all together, 2 STAMPS of all together, 3 PAGES, 4 SHOT, 5 THE DAY,"
+            + " 6 TEXTS, 7 numbers that wait, 8 bytes of THE TAPE, 9 z. BAD.");
         WornWeights x = Due.with(0, 100, 1, 30);
         x.file(0, 40);
         x.weigh(0, 1, 0);

@@ -190,7 +190,7 @@ public final class SheetTermsTest {
     }
 
     private static void nothing() {
-        due.term(5, "NOTHING: a SHEET is MISSING, a SLOT holds nothing");
+        due.term(5, "FINDINGS: NOTHING: a SHEET is MISSING, a SLOT holds nothing");
         WornWeights x = Due.with(0, 10);
         x.sheet(0, 0, 1);
         due.is("mark", x.mark(1, 0, 0), Due.NOTHING);
@@ -411,7 +411,7 @@ public final class SheetTermsTest {
     }
 
     private static void daysTold() {
-        due.term(5, "of n DAYS, one behind the other, by THE IMAGE: GRAINS of all together; SHOT (all of it) behind it");
+        due.term(5, "THE DAYS TOLD: of n DAYS, one behind the other, by THE IMAGE: GRAINS of all together; SHOT (all of it) behind it");
         WornWeights x = Due.with(0, 100, 5, 50);
         x.file(1, 0);
         x.seed(Due.seedFor(100, 0, 1, 0, 100, 4));

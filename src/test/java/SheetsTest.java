@@ -36,7 +36,7 @@ public final class SheetsTest {
     }
 
     private static void sheet() {
-        due.promise(30, "(sort -1: MISSING, n any): n (0). BAD: sheet, sort, n above 24; SIZE.");
+        due.promise(30, "A SHEET becomes a row of n places of a sort, all 0 (sort -1: MISSING, n any): n (0). BAD: sheet, sort, n above 24; SIZE.");
         WornWeights x = new WornWeights();
         due.is("P30 sheet -1", x.sheet(-1, 0, 5), Due.BAD);
         due.is("P30 sheet 4", x.sheet(4, 0, 5), Due.BAD);
@@ -61,7 +61,8 @@ public final class SheetsTest {
     }
 
     private static void mark() {
-        due.promise(31, "BAD: sheet; NOTHING; INDEX; KIND: NONE in a row of shorts; BAD: v of floats.");
+        due.promise(31, "A place of a SHEET becomes v (of shorts its lowest 16 bits; of floats v, -99999 .. 99999;"
+            + " NONE: NO NUMBER): 1. BAD: sheet; NOTHING; INDEX; KIND: NONE in a row of shorts; BAD: v of floats.");
         WornWeights x = new WornWeights();
         due.is("P31 bad", x.mark(4, 0, 0), Due.BAD);
         due.is("P31 bad", x.mark(-1, 0, 0), Due.BAD);
@@ -85,7 +86,8 @@ public final class SheetsTest {
     }
 
     private static void pour() {
-        due.promise(32, "(each held within 0 .. 999; NO NUMBER, and beyond the SHEET: they stay): how many are otherwise then. BAD; NOTHING.");
+        due.promise(32, "GRAINS of WEIGHTS, by numbers, become the places of a SHEET from 0 on"
+            + " (each held within 0 .. 999; NO NUMBER, and beyond the SHEET: they stay): how many are otherwise then. BAD; NOTHING.");
         WornWeights x = Due.with(0, 10, 0, 20, 0, 30, 0, 40, 0, 50);
         due.is("P32 bad", x.pour(-1), Due.BAD);
         due.is("P32 bad", x.pour(4), Due.BAD);
@@ -131,7 +133,8 @@ public final class SheetsTest {
     }
 
     private static void reads() {
-        due.promise(33, "The first place k (of numbers alone) at which a SHEET is not what BEHIND k WEIGHINGS of a WEIGHT tells.");
+        due.promise(33, "The first place k (of numbers alone) at which a SHEET is not what BEHIND k WEIGHINGS of a WEIGHT tells."
+            + " BAD; NOTHING; NONE: there is none.");
         WornWeights x = Due.with(0, 10, 4, 10);
         due.is("P33 bad", x.reads(4, 0), Due.BAD);
         due.is("P33 bad", x.reads(-1, 0), Due.BAD);
@@ -177,7 +180,8 @@ public final class SheetsTest {
     }
 
     private static void copy() {
-        due.promise(34, "KIND: they are not of one sort; INDEX (many below 0, too; many 0: not at the place behind the last one).");
+        due.promise(34, "So many places of a SHEET come to another one (or the same), as they were: many. BAD; NOTHING;"
+            + " KIND: they are not of one sort; INDEX (many below 0, too; many 0: not at the place behind the last one).");
         WornWeights x = new WornWeights();
         x.sheet(0, 1, 4);
         x.sheet(1, 0, 3);
@@ -204,6 +208,7 @@ public final class SheetsTest {
         due.is("P34 shorts", x.copy(1, 0, 1, 0, 3), 3);
         copiesNone();
         copiesAll();
+        copiesFromTo();
     }
 
     private static void copiesNone() {
@@ -241,8 +246,24 @@ public final class SheetsTest {
         due.is("P34 between", place(x, 1, 22), 122);
     }
 
+    private static void copiesFromTo() {
+        due.promise(34, "(From a SHEET, its place, to a SHEET, its place.)");
+        WornWeights x = new WornWeights();
+        row(x, 1, 0, 10, 11, 12, 13, 14);
+        row(x, 3, 0, 30, 31, 32, 33);
+        due.is("two from 1, place 3, to 3, place 0", x.copy(1, 3, 3, 0, 2), 2);
+        isRow("to it they came", x, 3, 13, 14, 32, 33);
+        isRow("from it none went", x, 1, 10, 11, 12, 13, 14);
+        due.is("one from 3, place 2, to 1, place 4", x.copy(3, 2, 1, 4, 1), 1);
+        isRow("to it it came", x, 1, 10, 11, 12, 13, 32);
+        due.is("place 4 of the row of four", x.copy(3, 4, 1, 0, 1), Due.INDEX);
+        due.is("place 4 of the row of five", x.copy(1, 4, 3, 3, 1), 1);
+        isRow("to it it came", x, 3, 13, 14, 32, 32);
+    }
+
     private static void lay() {
-        due.promise(35, "thing 0 nothing (k any), 1 WEIGHT k, 2 SHEET k, 3 the number k: what it held (0 .. 3). BAD: slot, thing, k; NOTHING");
+        due.promise(35, "A SLOT holds: thing 0 nothing (k any), 1 WEIGHT k, 2 SHEET k, 3 the number k: what it held (0 .. 3)."
+            + " BAD: slot, thing, k; NOTHING: that SHEET is MISSING.");
         WornWeights x = Due.with(3, 50);
         x.sheet(0, 0, 2);
         due.is("P35 slot", x.lay(-1, 0, 0), Due.BAD);
@@ -266,7 +287,8 @@ public final class SheetsTest {
     }
 
     private static void ask() {
-        due.promise(36, "BAD; NOTHING; KIND: it is no WEIGHT, or not of that KIND, nor of one under it.");
+        due.promise(36, "WORTH (by its own KIND, with GRAINS, TIMES as they were) of the WEIGHT in a SLOT,"
+            + " taken for one of a KIND (0 .. 5). BAD; NOTHING; KIND: it is no WEIGHT, or not of that KIND, nor of one under it.");
         WornWeights x = Due.with(3, 50, 4, 20);
         x.weigh(0, 1, 0);
         x.lay(0, 1, 0);
@@ -291,7 +313,7 @@ public final class SheetsTest {
     }
 
     private static void item() {
-        due.promise(37, "BAD: slot; NOTHING; KIND: it is no SHEET; INDEX; KIND: NO NUMBER.");
+        due.promise(37, "A place of the SHEET in a SLOT. BAD: slot; NOTHING; KIND: it is no SHEET; INDEX; KIND: NO NUMBER.");
         WornWeights x = Due.with(0, 5);
         row(x, 0, 1, 7, Due.NONE);
         x.lay(0, 2, 0);
@@ -313,7 +335,7 @@ public final class SheetsTest {
     }
 
     private static void rest() {
-        due.promise(38, "BAD: slot; NOTHING; KIND: it is no number; NO: n is 0.");
+        due.promise(38, "The rest of the number in a SLOT by n. BAD: slot; NOTHING; KIND: it is no number; NO: n is 0.");
         WornWeights x = Due.with(0, 5);
         x.sheet(0, 0, 1);
         x.lay(0, 3, -17);

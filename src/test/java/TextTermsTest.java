@@ -9,6 +9,9 @@ public final class TextTermsTest {
         usedUp();
         keys();
         oneTestSign();
+        rowsOfTests();
+        rowsOfPieces();
+        pieces();
         looseAndTight();
         numbers();
         namesOfWear();
@@ -74,7 +77,7 @@ public final class TextTermsTest {
     }
 
     private static void ninetySixBytes() {
-        due.term(4, "THE TAPE (96 bytes at most");
+        due.term(4, "numbered from 0, from THE TAPE (96 bytes at most");
         WornWeights x = Due.with(5, 10);
         String longest = "fine " + "1+".repeat(45) + "1";
         due.is("its bytes", longest.length(), 96);
@@ -140,6 +143,56 @@ public final class TextTermsTest {
         gives("(1<2)=(2>1)&1", 1);
     }
 
+    private static void rowsOfTests() {
+        due.term(4, "OR: AND { | AND }; AND: TEST { & TEST };");
+        gives("0|0|0|0", 0);
+        gives("0|0|0|9", 1);
+        gives("1&1&1&1", 1);
+        gives("1&0&1&1", 0);
+        gives("0&1|1&0|1&1", 1);
+        gives("0&1|1&0|0&1", 0);
+        gives("1<2&2<3&3<4", 1);
+        gives("1<2&3<2&3<4", 0);
+        gives("1>2|2>3|4>3", 1);
+        isFault("fine |1", 5);
+        isFault("fine 1|", 7);
+        isFault("fine 1|&1", 7);
+        isFault("fine 1&|1", 7);
+    }
+
+    private static void rowsOfPieces() {
+        due.term(4, "SUM: TERM { (+ | -) TERM }; TERM: PIECE { (* | /) PIECE };");
+        gives("1+2+3+4", 10);
+        gives("1-2-3-4", -8);
+        gives("1-2+3-4", -2);
+        gives("1*2*3*4", 24);
+        gives("100/2/5", 10);
+        gives("100/2*5", 250);
+        gives("5*7/2", 17);
+        gives("2*3+4*5-6/2", 23);
+        isFault("fine *1", 5);
+        isFault("fine 1*", 7);
+        isFault("fine 1*/2", 7);
+        isFault("fine 1+*2", 7);
+    }
+
+    private static void pieces() {
+        due.term(4, "| NAME | ! PIECE | ( E ). NAMES, each one letter:");
+        gives("l", 3);
+        gives("(l)", 3);
+        gives("((l))", 3);
+        gives("!l", 0);
+        gives("!!l", 1);
+        gives("!(l)", 0);
+        gives("(!l)", 0);
+        gives("(0|l<5&t)+1", 2);
+        gives("!(l<t)+!(t<l)", 1);
+        isFault("fine lt", 5);
+        isFault("fine ll", 5);
+        isFault("fine (l", 7);
+        isFault("fine l t", 7);
+    }
+
     private static void looseAndTight() {
         due.term(4, "E, the loosest first");
         gives("1|0&0", 1);
@@ -164,7 +217,7 @@ public final class TextTermsTest {
     }
 
     private static void numbers() {
-        due.term(4, "NUMBER (1 to 4 digits)");
+        due.term(4, "PIECE: NUMBER (1 to 4 digits)");
         gives("0", 0);
         gives("9", 9);
         gives("0000", 0);
@@ -221,7 +274,7 @@ public final class TextTermsTest {
     }
 
     private static void missingBelow0() {
-        due.term(4, "(STAMP less GRAINS; in a TEXT below 0, too)");
+        due.term(4, "how many GRAINS are missing (STAMP less GRAINS; in a TEXT below 0, too), t");
         WornWeights x = Due.with(5, 1, 5, 999);
         x.file(0, 999);
         x.file(1, 0);
@@ -233,7 +286,7 @@ public final class TextTermsTest {
     }
 
     private static void fineWithoutText() {
-        due.term(4, "without a TEXT: l, 0 at least");
+        due.term(4, "(what fine gives for a WEIGHT is told by fine(); without a TEXT: l, 0 at least)");
         WornWeights x = Due.with(5, 10);
         Due.text(x, "wear 5");
         Due.text(x, "law 5");
@@ -327,7 +380,8 @@ public final class TextTermsTest {
     }
 
     private static void firstFault() {
-        due.term(4, "FAULT: the first byte of the first word or sign with which no TEXT goes on");
+        due.term(4, "FAULT: the first byte of the first word or sign with which no TEXT goes on"
+            + " (a word that needs a blank ahead of it, a NUMBER of more than 4 digits,");
         isFault("fine 1 ) 12345 x ((", 7);
         isFault("fine   12345   12345", 7);
         isFault("  fines  x", 2);

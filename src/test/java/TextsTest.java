@@ -227,7 +227,7 @@ public final class TextsTest {
     }
 
     private static void textTold() {
-        due.promise(28, "what 0 KEY (0 wear, 1 law, 2 fine), 1 how many NUMBERS and NAMES it has. BAD.");
+        due.promise(28, "Of a TEXT: what 0 KEY (0 wear, 1 law, 2 fine), 1 how many NUMBERS and NAMES it has. BAD.");
         WornWeights x = new WornWeights();
         Due.text(x, "law s*(9+d)-!0");
         Due.text(x, "fine 1");

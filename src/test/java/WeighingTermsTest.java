@@ -13,6 +13,7 @@ public final class WeighingTermsTest {
         shotGiven();
         weightTakesNoLess();
         mondayBelow();
+        mondayTillAsMany();
         mondayHeld();
         mondayWithoutText();
         dayFalls();
@@ -26,7 +27,7 @@ public final class WeighingTermsTest {
     }
 
     private static void twoSets() {
-        due.term(2, "(no WEIGHT in both, not both empty)");
+        due.term(2, "A WEIGHING on a BALANCE of two sets of WEIGHTS, left and right (no WEIGHT in both, not both empty)");
         WornWeights x = Due.with(0, 10, 0, 10, 0, 10);
         due.is("one in both", x.weigh(0, 1, 1), Due.NO);
         due.is("one of several in both", x.weigh(0, 3, 6), Due.NO);
@@ -174,7 +175,7 @@ public final class WeighingTermsTest {
     }
 
     private static void mondayBelow() {
-        due.term(2, "each WEIGHT by numbers whose GRAINS are below what law gives");
+        due.term(2, "A MONDAY: each WEIGHT by numbers whose GRAINS are below what law gives");
         WornWeights x = Due.with(5, 100, 5, 100, 5, 100, 5, 100, 5, 100);
         int[] grains = {0, 89, 90, 91, 999};
         int[] behind = {90, 90, 90, 91, 999};
@@ -188,6 +189,25 @@ public final class WeighingTermsTest {
         due.is("shot in all", x.count(4), 91);
         due.is("once more", x.monday(), 0);
         due.is("without weights", new WornWeights().monday(), 0);
+    }
+
+    private static void mondayTillAsMany() {
+        due.term(2, "gets SHOT till it has as many.");
+        WornWeights x = Due.with(0, 20, 1, 40, 5, 60);
+        Due.text(x, "law s*2-5");
+        due.is("15, 35 and 55", x.monday(), 15 + 35 + 55);
+        int[] grains = {35, 75, 115};
+        for (int i = 0; i < 3; i++) {
+            due.is("as many as law gives for " + i, x.told(i, 2), grains[i]);
+            due.is("its stamp stays", x.told(i, 1), 20 + 20 * i);
+            due.is("no weighing", x.told(i, 3), 0);
+        }
+        due.is("shot", x.count(4), 105);
+        due.is("they have as many", x.monday(), 0);
+        due.is("shot still", x.count(4), 105);
+        x.file(1, 74);
+        due.is("one is missing", x.monday(), 1);
+        due.is("as many again", x.told(1, 2), 75);
     }
 
     /** What a MONDAY gives one WEIGHT without GRAINS by a law. */
@@ -288,7 +308,7 @@ public final class WeighingTermsTest {
     }
 
     private static void drawWraps() {
-        due.term(2, "z becomes z * 1103515245 + 12345 (an int); it gives z >>> 8");
+        due.term(2, "A draw: z becomes z * 1103515245 + 12345 (an int); it gives z >>> 8");
         int[] seeds = {0, 1, -1, Integer.MAX_VALUE, Integer.MIN_VALUE, 65536, -65536};
         for (int seed : seeds) {
             WornWeights x = Due.with(5, 10);
@@ -310,7 +330,7 @@ public final class WeighingTermsTest {
     }
 
     private static void weightsDrawn() {
-        due.term(2, "KIND the rest of a draw by 6, STAMP 1 and that of one more by 400");
+        due.term(2, "WEIGHTS that are drawn: KIND the rest of a draw by 6, STAMP 1 and that of one more by 400");
         int[] rests = {0, 1, 398, 399};
         for (int kind = 0; kind < 6; kind++) {
             for (int rest : rests) {

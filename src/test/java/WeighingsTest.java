@@ -28,7 +28,8 @@ public final class WeighingsTest {
     }
 
     private static void weigh() {
-        due.promise(10, "BAD: balance, a set with one that is not there; NO: one is in both, or both are empty.");
+        due.promise(10, "A WEIGHING: what it SAYS. BAD: balance, a set with one that is not there;"
+            + " NO: one is in both, or both are empty.");
         WornWeights x = Due.with(0, 100, 1, 80);
         refusals("P10", x, true);
         due.is("P10 left", x.weigh(0, 1, 2), 1);
@@ -214,7 +215,8 @@ public final class WeighingsTest {
     }
 
     private static void page() {
-        due.promise(16, "2 what it SAYS, 3 whether it FITS (1, 0). BAD: what; NONE: there is no such PAGE.");
+        due.promise(16, "Of THE BOOK, PAGE i (the oldest first, from 0 on): what 0 the left set, 1 the right one,"
+            + " 2 what it SAYS, 3 whether it FITS (1, 0). BAD: what; NONE: there is no such PAGE.");
         WornWeights x = Due.with(0, 100, 1, 100, 5, 50);
         due.is("P16 none", x.page(0, 0), Due.NONE);
         due.is("P16 bad ahead of none", x.page(0, 4), Due.BAD);

@@ -21,9 +21,11 @@ public final class WeightTermsTest {
         falseLoses();
         noMoreThanGrains();
         losesAtAFall();
+        kindNotNamed();
         worth();
         balances();
         pull();
+        pullOfSeveral();
         due.end();
     }
 
@@ -40,7 +42,7 @@ public final class WeightTermsTest {
     }
 
     private static void cutsTowards0() {
-        due.term(0, "/ cuts towards 0");
+        due.term(0, "All numbers are whole; / cuts towards 0");
         WornWeights x = Due.with(5, 10);
         int[] above = {7, -7, 7, -7, 1, -1};
         int[] below = {2, 2, -2, -2, 2, 2};
@@ -158,7 +160,8 @@ public final class WeightTermsTest {
     }
 
     private static void kinds() {
-        due.term(1, "0 WEIGHT; 1 LEAD, 2 SILK, 5 FALSE, under WEIGHT; 3 SCARRED, under LEAD; 4 OLD, under SILK");
+        due.term(1, "and of KINDS: 0 WEIGHT; 1 LEAD, 2 SILK, 5 FALSE, under WEIGHT; 3 SCARRED, under LEAD;"
+            + " 4 OLD, under SILK (all are WEIGHTS)");
         due.is("kind -1", new WornWeights().weight(-1, 9), Due.BAD);
         due.is("kind 6", new WornWeights().weight(6, 9), Due.BAD);
         int[] kindsAbove = {0b000001, 0b000011, 0b000101, 0b001011, 0b010101, 0b100001};
@@ -233,7 +236,7 @@ public final class WeightTermsTest {
     }
 
     private static void weightLoses() {
-        due.term(1, "WEIGHT: what wear gives, held within 0 .. 99 (without a TEXT: 1)");
+        due.term(1, "LOSES at a weighing: WEIGHT: what wear gives, held within 0 .. 99 (without a TEXT: 1)");
         due.is("without a text", Due.with(0, 999).told(0, 4), 1);
         isLost(0, new String[] {"0-1", "0", "1", "98", "99", "100", "9999", LEAST, MOST}, 0, 0, 1, 98, 99, 99, 99, 0, 99);
         WornWeights x = Due.with(0, 999);
@@ -316,6 +319,22 @@ public final class WeightTermsTest {
         due.is("999 of 1000", y.told(1, 5), 999);
     }
 
+    private static void kindNotNamed() {
+        due.term(1, "(A KIND that is not named does as the one above it.)");
+        // For a fall no KIND is named: each does as WEIGHT does, ten times what it loses itself.
+        int[] wears = {0, 1, 7, 20};
+        int[][] falls = {{0, 10, 0, 20, 0, 0}, {10, 20, 0, 40, 0, 0}, {70, 80, 30, 160, 30, 0}, {200, 210, 100, 420, 100, 0}};
+        for (int i = 0; i < wears.length; i++) {
+            for (int kind = 0; kind < 6; kind++) {
+                WornWeights x = Due.with(kind, 999);
+                Due.text(x, "wear " + wears[i]);
+                due.is("kind " + kind + ", wear " + wears[i], x.told(0, 5), falls[i][kind]);
+                due.is("kind " + kind + " fell by " + wears[i], x.fall(0), falls[i][kind]);
+                due.is("what is left", x.told(0, 2), 999 - falls[i][kind]);
+            }
+        }
+    }
+
     private static void worth() {
         due.term(1, "WORTH: WEIGHT: GRAINS. LEAD: as WEIGHT, less 2. SCARRED: as LEAD, less TIMES. SILK: twice as WEIGHT."
             + " OLD: as SILK, and 100. FALSE: 7.");
@@ -378,5 +397,21 @@ public final class WeightTermsTest {
         all.arm(3, 0, 110);
         due.is("the greatest pull", all.weigh(3, 1023, 0), 1);
         due.is("nine at 110 against one at 100", all.said(3, 1022, 1), 1);
+    }
+
+    private static void pullOfSeveral() {
+        due.term(1, "PULL of a pan: GRAINS of all in it, together, times its ARM.");
+        WornWeights x = Due.with(5, 20, 5, 30, 5, 45, 5, 5, 5, 50);
+        due.is("20 and 30 against 45 and 5", x.said(0, 0b00011, 0b01100), 0);
+        due.is("20 and 30 against 45", x.said(0, 0b00011, 0b00100), 1);
+        due.is("20 and 30 against 45, 5 and 50", x.said(0, 0b00011, 0b11100), 2);
+        due.is("45 and 5 against 50", x.said(0, 0b01100, 0b10000), 0);
+        x.arm(0, 0, 90);
+        due.is("50 by 90 against 45 by 100", x.said(0, 0b00011, 0b00100), 0);
+        due.is("50 by 90 against 50 by 100", x.said(0, 0b00011, 0b01100), 2);
+        due.is("55 by 90 against 50 by 100", x.said(0, 0b11000, 0b00011), 2);
+        due.is("75 by 90 against 50 by 100", x.said(0, 0b00110, 0b10000), 1);
+        x.file(3, 999);
+        due.is("by grains, not by stamps", x.said(0, 0b01000, 0b10111), 1);
     }
 }

@@ -54,7 +54,7 @@ public final class WeightsTest {
     }
 
     private static void told() {
-        due.promise(3, "4 what it LOSES at a weighing, 5 at a fall, 6 WORTH. BAD.");
+        due.promise(3, "Of a WEIGHT: what 0 KIND, 1 STAMP, 2 GRAINS, 3 TIMES, 4 what it LOSES at a weighing, 5 at a fall, 6 WORTH. BAD.");
         WornWeights x = Due.with(0, 100, 1, 100, 2, 100, 3, 100, 4, 100, 5, 100);
         int[] loses = {1, 2, 0, 4, 0, 0};
         int[] worth = {100, 98, 200, 98, 300, 7};
@@ -105,7 +105,7 @@ public final class WeightsTest {
     }
 
     private static void as() {
-        due.promise(4, "KIND: it is not of that KIND, nor of one under it.");
+        due.promise(4, "A WEIGHT as one of a KIND: GRAINS. BAD: weight, kind; KIND: it is not of that KIND, nor of one under it.");
         boolean[][] is = {
             {true, false, false, false, false, false},
             {true, true, false, false, false, false},
@@ -162,7 +162,7 @@ public final class WeightsTest {
     }
 
     private static void arm() {
-        due.promise(7, "(side 0 left, 1 right) becomes v: what it was. BAD.");
+        due.promise(7, "The ARM of a BALANCE (side 0 left, 1 right) becomes v: what it was. BAD.");
         WornWeights x = Due.with(0, 100, 0, 100);
         due.is("P7 balance -1", x.arm(-1, 0, 100), Due.BAD);
         due.is("P7 balance 4", x.arm(4, 0, 100), Due.BAD);
@@ -179,7 +179,7 @@ public final class WeightsTest {
     }
 
     private static void deal() {
-        due.promise(8, "as many as there is room for (no draws for others): how many came. BAD.");
+        due.promise(8, "WEIGHTS are drawn, n (1 .. 10) of them, as many as there is room for (no draws for others): how many came. BAD.");
         WornWeights x = new WornWeights();
         due.is("P8 0", x.deal(0), Due.BAD);
         due.is("P8 11", x.deal(11), Due.BAD);
